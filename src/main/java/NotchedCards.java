@@ -560,7 +560,9 @@ public final class NotchedCards {
 
         /** To the next token; the end is never left. */
         void advance() {
-            at = Math.min(at + 1, size - 1);
+            if (at + 1 < size) {
+                at++;
+            }
             token = tokens[at];
             value = values[at];
             place = places[at];
