@@ -5,6 +5,7 @@ public final class ChanceTest {
         wrongOnes(check);
         likely(check);
         best(check);
+        bestOfManyCards(check);
         meansOfWords(check);
         meansOfValues(check);
         check.end();
@@ -89,6 +90,27 @@ public final class ChanceTest {
         check.due("its own code isn't shared", x.best(20, 2), 3);
     }
 
+    private static void bestOfManyCards(Check check) {
+        NotchedCards x = Check.made("holes 10;field a laid 2 5 2;word a x 0 1;", 5);
+        int[][] cut = {{2, 3}, {2, 4}, {2, 3, 4}, {3, 5, 2}, {4, 5}};
+        for (int c = 0; c < cut.length; c++) {
+            for (int hole : cut[c]) {
+                x.tear(c, hole, false);
+            }
+        }
+        // 2 and 3: three cards; 2 and 4: two; 3 and 4, 2 and 5, 3 and 5, 4 and 5: one each.
+        check.due("fewest cards, then least bits", x.best(12, 0), 6);
+        check.due("known by 6", x.best(6, 0), 6);
+        check.due("known by 7", x.best(7, 0), 9);
+        x.put(2, 0);
+        check.due("none has 3 and 4 then", x.best(13, 0), 6);
+        check.due("falsely", x.falsely(13, 0), 2);
+        x.put(3, 0);
+        check.due("2 and 5, too", x.best(14, 0), 6);
+        check.due("falsely", x.falsely(14, 0), 1);
+        check.due("likely", x.likely(14, 0, 0), 3);
+    }
+
     private static void meansOfWords(Check check) {
         NotchedCards x = Check.made(Check.PLAN, 2);
         check.due("nothing: sure", x.means(0, 0, 3, 0, 0), 0);
@@ -110,6 +132,13 @@ public final class ChanceTest {
         x.recode(0, 3 << 8);
         check.due("another code", x.means(4, 0, 3, 2, 1), 0);
         check.due("another card", x.means(4, 1, 3, 0, 2), 1);
+        NotchedCards both = Check.made(Check.PLAN, 1);
+        both.put(0, 1);
+        both.put(0, 0);
+        both.tear(0, 22, false);
+        check.due("one of two sets: may be", both.means(3, 0, 3, 1, 1), 7);
+        check.due("one of two sets: sure", both.means(3, 0, 3, 1, 0), 3);
+        check.due("iron, wood or clay alone: may be", both.means(3, 0, 3, 3, 1), 7);
         NotchedCards y = twelve();
         check.due("twelve words: sets", y.means(12, 0, 0, 0, 2), 1);
         check.due("twelve words: sure", y.means(12, 0, 0, 0, 0), 4095);

@@ -93,6 +93,16 @@ public final class OrderTest {
         check.due("alike at all holes", torn.sort(0, 0, 0), -2);
         torn.tear(0, 0, true);
         check.due("one by a torn hole", torn.sort(0, 0, 0), -2);
+        // Two rows of two passes, 0 3 and 1 2; neither 0 1 nor 0 2 does.
+        NotchedCards several = of(0, 2, 1, 0);
+        several.tear(1, 3, false);
+        several.tear(0, 0, false);
+        several.tear(0, 3, false);
+        sorted(check, several, 0, 0, 3);
+        NotchedCards parted = of(0, 1, 1, 0);
+        parted.tear(1, 1, true);
+        parted.tear(1, 3, false);
+        sorted(check, parted, 0, 1, 3);
         NotchedCards row = of(2, 3, 1, 4, 1, 5);
         check.due("the row as work", Check.work(row, "pass a to b a by 15;join b a;pass a to b a by 14;join b a;"), 0);
         check.dueRow("in order", row, 0, "1 3 0 2 4");

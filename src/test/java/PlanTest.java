@@ -22,6 +22,9 @@ public final class PlanTest {
         check.due("sums and pairs at the end", Check.plan(x, "holes 10;field a sums 6;field b pairs 1;"), 3);
         check.due("eight fields", Check.plan(x, fields(8)), 9);
         check.due("twelve words", Check.plan(x, words(12)), 14);
+        String most = fields(7) + words(12).substring("holes 60;".length()).replace("0 23", "20 43");
+        check.due("eight fields and twelve words", Check.plan(x, most), 21);
+        check.planFault(most + "holes", 3, most.length());
         check.due("words numbered as they come", x.named(1, Check.packed("wk")), 10);
         check.due("names of one letter, of six letters", Check.plan(x, "holes 10;field f laid 0 9 1;word f abcdef 9;word f z 0;"), 4);
         check.due("code of abcdef", x.coded(0, 0), 512);
@@ -117,6 +120,7 @@ public final class PlanTest {
         check.planFault("holes 12;field a one 10 11;field b sums 9;", 2, 40);
         check.planFault("holes 12;field a one 6 7;field b pairs 2;", 3, 39);
         check.planFault("holes 12;field a one 2 4;field b one 12 13;", 2, 37);
+        check.planFault("holes 12;field a one 0 1;field b one 2 3;field c one 1 2;", 3, 53);
     }
 
     private static void wordFaults(Check check) {

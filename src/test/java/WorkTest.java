@@ -70,6 +70,13 @@ public final class WorkTest {
         x.strike(5);
         check.due("a word with its code again", Check.work(x, "pass a to b c by b;"), 0);
         check.dueRow("a word with its code again", x, 1, "0 2");
+        x.gather();
+        check.due("two holes: each counts", Check.work(x, "pass a to b c by 12 1;"), 0);
+        check.dueRow("two holes: each counts", x, 1, "2");
+        check.due("two holes: each counts", Check.work(x, "join c b;pass b to a c by a 0 1;"), 0);
+        check.dueRow("two holes: each counts", x, 0, "2 0");
+        x.gather();
+        check.due("a word, then its cards", Check.work(x, "pass a to b c by b;"), 0);
         check.due("the same hole twice", Check.work(x, "pass b to d e by 0 0 a 0;"), 0);
         check.dueRow("the same hole twice", x, 3, "0 2");
     }
