@@ -1559,6 +1559,9 @@ public final class NotchedCards {
     private static final class Sorter {
         static final int SETS = 1 << MOST_SORT_HOLES;
         static final int DIGIT = 3;
+        /** No VALUE, and not that of a CARD without one (NONE), is as low or as high. */
+        static final int BELOW_ALL = NONE - 1;
+        static final int ABOVE_ALL = NUMBER_LIMIT + 1;
 
         int size;
         int width;
@@ -1635,8 +1638,8 @@ public final class NotchedCards {
         /** Whether of CARDS alike at the later HOLES none DROPS with a VALUE below that of one LIFTED. */
         boolean isParting(int later, int hole) {
             for (int i = 0; i < size; i++) {
-                highest[cuts[i] & later] = Integer.MIN_VALUE;
-                lowest[cuts[i] & later] = Integer.MAX_VALUE;
+                highest[cuts[i] & later] = BELOW_ALL;
+                lowest[cuts[i] & later] = ABOVE_ALL;
             }
             for (int i = 0; i < size; i++) {
                 int like = cuts[i] & later;
@@ -1655,7 +1658,7 @@ public final class NotchedCards {
         /** Whether CARDS alike at these HOLES lie in ORDER already. */
         boolean isOrdered(int set) {
             for (int i = 0; i < size; i++) {
-                highest[cuts[i] & set] = Integer.MIN_VALUE;
+                highest[cuts[i] & set] = BELOW_ALL;
             }
             for (int i = 0; i < size; i++) {
                 if (values[i] < highest[cuts[i] & set]) {

@@ -21,6 +21,14 @@ final class Check {
         }
     }
 
+    void dueText(String call, String got, String want) {
+        checks++;
+        if (!got.equals(want)) {
+            wrong++;
+            System.out.println(name + ": " + call + " is\n" + got + "\ndue is\n" + want);
+        }
+    }
+
     void fault(NotchedCards x, String text, int fault, int place) {
         due(text + " | its fault", x.fault(0), fault);
         due(text + " | its place", x.fault(1), place);
@@ -30,6 +38,15 @@ final class Check {
         NotchedCards x = new NotchedCards();
         due(text, plan(x, text), NotchedCards.NONE);
         fault(x, text, fault, place);
+    }
+
+    /** A plan with a fault; ^ stands ahead of its place. */
+    void planFault(int fault, String marked) {
+        planFault(unmarked(marked), fault, marked.indexOf('^'));
+    }
+
+    static String unmarked(String marked) {
+        return marked.replace("^", "");
     }
 
     void end() {

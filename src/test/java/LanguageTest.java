@@ -16,7 +16,7 @@ public final class LanguageTest {
         "\\.equals\\(", "hashCode", "toString", "\\bprotected\\b"
     };
     private static final Set<String> LIBRARY = new HashSet<>(Arrays.asList(
-            "Math.min", "Math.max", "Integer.bitCount", "Long.bitCount", "Integer.MIN_VALUE", "Integer.MAX_VALUE"));
+            "Math.min", "Math.max", "Integer.bitCount", "Long.bitCount"));
 
     public static void main(String[] args) throws IOException {
         Check check = new Check("LanguageTest");
