@@ -1,27 +1,9 @@
-import java.lang.reflect.Constructor;
-import java.lang.reflect.Field;
-import java.lang.reflect.Method;
-import java.lang.reflect.Modifier;
-import java.util.Arrays;
-import java.util.HashSet;
 import java.util.NoSuchElementException;
-import java.util.Set;
 
-/** Promises 1 and 2, 6 to 9 and 31, and the face itself. */
+/** Promises 1 and 2, 6 to 9 and 31; the face itself is in PrintedFaceTest. */
 public final class FaceTest {
-    private static final String[] FACE = {
-        "int feed(int,int,int,int,int)", "int plan(int)", "int work(int)", "int question(int)", "int fault(int)",
-        "int named(int,int)", "int look(int,int)", "long code(int,int)", "long coded(int,int)", "int card()",
-        "int set(int,int,int)", "int put(int,int)", "int tear(int,int,boolean)", "int recode(int,int)",
-        "int strike(int)", "long notched(int,int)", "int truly(int,int,int)", "boolean turn(int)", "int turned()",
-        "int pack(int,int)", "int drops(int,long)", "int gather()", "int ask(int,int)", "long likely(int,int,int)",
-        "int falsely(int,int)", "int best(int,int)", "int means(int,int,int,int,int)", "int behind(int,int)",
-        "int sort(int,int,int)", "int count(int)"
-    };
-
     public static void main(String[] args) {
         Check check = new Check("FaceTest");
-        theFace(check);
         aNewObject(check);
         theTape(check);
         faults(check);
@@ -32,48 +14,13 @@ public final class FaceTest {
         check.end();
     }
 
-    private static void theFace(Check check) {
-        Set<String> face = new HashSet<>(Arrays.asList(FACE));
-        Set<String> names = new HashSet<>();
-        for (String row : FACE) {
-            names.add(row.substring(row.indexOf(' ') + 1, row.indexOf('(')));
-        }
-        int found = 0;
-        for (Method method : NotchedCards.class.getDeclaredMethods()) {
-            StringBuilder row = new StringBuilder(method.getReturnType() + " " + method.getName() + "(");
-            for (Class<?> type : method.getParameterTypes()) {
-                row.append(row.charAt(row.length() - 1) == '(' ? "" : ",").append(type);
-            }
-            boolean isPublic = Modifier.isPublic(method.getModifiers());
-            found += isPublic && face.contains(row.append(")").toString()) ? 1 : 0;
-            check.due("a hidden method is private: " + row, isPublic || Modifier.isPrivate(method.getModifiers()) ? 1 : 0, 1);
-            check.due("no private method of a public name: " + row, isPublic || !names.contains(method.getName()) ? 1 : 0, 1);
-        }
-        check.due("methods of the face", found, FACE.length);
-        for (Field field : NotchedCards.class.getDeclaredFields()) {
-            boolean isRight = Modifier.isPrivate(field.getModifiers()) || field.getName().equals("NONE");
-            check.due("a field is private: " + field.getName(), isRight ? 1 : 0, 1);
-            boolean isLasting = !Modifier.isStatic(field.getModifiers()) || Modifier.isFinal(field.getModifiers());
-            check.due("a static field is final: " + field.getName(), isLasting ? 1 : 0, 1);
-        }
-        for (Constructor<?> constructor : NotchedCards.class.getDeclaredConstructors()) {
-            check.due("parameters of the constructor", constructor.getParameterCount(), 0);
-        }
-        for (Class<?> inside : NotchedCards.class.getDeclaredClasses()) {
-            check.due("a class inside is static: " + inside, Modifier.isStatic(inside.getModifiers()) ? 1 : 0, 1);
-            check.due("a class inside is not public: " + inside, Modifier.isPublic(inside.getModifiers()) ? 1 : 0, 0);
-        }
-        check.due("classes inside: at most twelve", NotchedCards.class.getDeclaredClasses().length <= 12 ? 1 : 0, 1);
-        check.due("final", Modifier.isFinal(NotchedCards.class.getModifiers()) ? 1 : 0, 1);
-        check.due("NONE", NotchedCards.NONE, -1);
-    }
-
     private static void aNewObject(Check check) {
         NotchedCards x = new NotchedCards();
         int[] counts = {10, 0, 0, 0, 0, 0, 0, 0};
         for (int what = 0; what < counts.length; what++) {
             check.due("count(" + what + ") at first", x.count(what), counts[what]);
         }
+        check.due("NONE", NotchedCards.NONE, -1);
         check.due("fault(0) at first", x.fault(0), 0);
         check.due("fault(1) at first", x.fault(1), -1);
         check.due("fault(2)", x.fault(2), -1);

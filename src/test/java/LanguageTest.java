@@ -41,6 +41,8 @@ public final class LanguageTest {
         for (String line : lines) {
             boolean isRight = !line.matches(".*\\bnew \\w+\\[.*") || line.matches(" +(private )?final .*");
             check.due("arrays are made with the object alone: " + line, isRight ? 1 : 0, 1);
+            boolean isKept = !line.matches(".*\\bnew \\w+\\(.*") || line.matches(" {4}private (final )?\\w+ \\w+ = new \\w+\\(\\);|.*\\bthrow new .*");
+            check.due("objects are made with the object alone: " + line, isKept ? 1 : 0, 1);
         }
         methods(check, lines);
         check.end();
